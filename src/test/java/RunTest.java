@@ -77,6 +77,13 @@ public final class RunTest {
         for (int k = 0; k < due.length; k++) {
             check.due("frames: out(" + k + ")", x.out(k), due[k]);
         }
+        CallShaper again = Code.program(Code.out(2), Code.constant(2, 5), Code.call(3, 0, 1), Code.call(3, 0, 1), Code.call(3, 0, 1));
+        Code.put(again, 0, 1, Code.out(5), Code.out(4), Code.constant(5, 9), Code.move(4, 0));
+        again.run(false, 1);
+        again.run(false, 1);
+        for (int k = 0; k < 7; k++) {
+            check.due("a frame's registers are 0 at first: out(" + k + ")", again.out(k), 0);
+        }
         CallShaper first = Code.program(Code.out(1), Code.out(0));
         first.run(false, 1);
         check.due("the run's own call: register 1", first.out(0), 0);

@@ -90,6 +90,12 @@ public final class SiteTest {
         x.shape();
         check.due("NEW into register 5 with a CALL", x.site(0, 0, 0), NOT_LOCAL);
         check.due("each NEW for itself", x.site(0, 0, 1), LOCAL);
+        CallShaper before = Code.program(Code.move(3, 2), Code.make(2, 1), Code.answer(3));
+        before.shape();
+        check.due("a MOVE before the NEW", before.site(0, 0, 1), NOT_LOCAL);
+        before = Code.program(Code.answer(2), Code.make(2, 1));
+        before.shape();
+        check.due("a RETURN before the NEW", before.site(0, 0, 1), NOT_LOCAL);
     }
 
     private static void otherOperationsAndBodies(Check check) {

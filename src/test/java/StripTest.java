@@ -6,8 +6,35 @@ public final class StripTest {
         Check check = new Check();
         operationsGo(check);
         theParentsMethodComesBack(check);
+        whatWasTakenAwayIsNotShaped(check);
         wrongBodies(check);
         check.end();
+    }
+
+    private static void whatWasTakenAwayIsNotShaped(Check check) {
+        CallShaper x = Code.program(Code.out(0), Code.call(1, 0, 1), Code.make(2, 4), Code.move(3, 2), Code.answer(2));
+        Code.put(x, 0, 1, Code.out(0), Code.skip(1, 1));
+        x.strip(0, 0);
+        x.strip(0, 1);
+        Code.put(x, 0, 0, Code.make(2, 2), Code.call(1, 0, 1));
+        Code.put(x, 0, 1, Code.out(0));
+        check.due("shape() behind strip", x.shape(), 2);
+        check.due("reach() behind strip", x.reach(), 1 | 1 << 2 | 1 << 8 | 1 << 9);
+        check.due("a SKIP was taken away: site(0, 0, 1)", x.site(0, 0, 1), 3);
+        x.strip(0, 0);
+        Code.put(x, 0, 0, Code.call(1, 0, 1), Code.answer(2), Code.move(2, 3), Code.set(0, 3, 0));
+        x.strip(0, 0);
+        Code.put(x, 0, 0, Code.make(2, 2));
+        x.shape();
+        check.due("a RETURN was taken away: site(0, 0, 0)", x.site(0, 0, 0), 5);
+        check.due("a CALL was taken away: reach()", x.reach(), 1 | 1 << 2 | 1 << 8);
+        Code.put(x, 0, 0, Code.answer(3));
+        x.strip(0, 0);
+        Code.put(x, 0, 0, Code.out(1), Code.out(1), Code.move(3, 2));
+        x.strip(0, 0);
+        Code.put(x, 0, 0, Code.make(2, 2), Code.answer(3));
+        x.shape();
+        check.due("a MOVE was taken away: site(0, 0, 0)", x.site(0, 0, 0), 5);
     }
 
     private static void operationsGo(Check check) {

@@ -5,7 +5,18 @@ public final class TypeTest {
         numbersGoUpToFive(check);
         parentsMustBeThere(check);
         parentsGiveMethods(check);
+        aChainOfSix(check);
         check.end();
+    }
+
+    private static void aChainOfSix(Check check) {
+        CallShaper x = Code.program(Code.make(1, 5), Code.cast(1, 0), Code.call(2, 1, 3), Code.out(2));
+        for (int parent = 0; parent < 5; parent++) {
+            x.type(parent);
+        }
+        Code.put(x, 0, 3, Code.constant(2, 79), Code.answer(2));
+        check.due("class 5 is class 0 over four others: run", x.run(false, 2), 0);
+        check.due("class 5 has the method of class 0: out(0)", x.out(0), 79);
     }
 
     private static void numbersGoUpToFive(Check check) {

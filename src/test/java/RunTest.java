@@ -172,31 +172,19 @@ public final class RunTest {
         trap(check, "TARGET of a class that is not there", TARGET, Code.make(2, 3), Code.call(4, 2, 0));
     }
 
-    /** A program that does 394 operations and those between them, and then the one at the end of selector 2, if any. */
-    private static CallShaper nearTheEnd(int between, int[]... last) {
-        CallShaper x = Code.program(Code.times(3, Code.call(1, 0, 1)));
-        Code.put(x, 0, 0, Code.times(between, Code.constant(1, 1)));
-        Code.put(x, 0, 0, Code.call(1, 0, 2));
-        Code.put(x, 0, 1, Code.times(10, Code.call(1, 0, 3)));
-        Code.put(x, 0, 2, Code.times(9, Code.call(1, 0, 3)));
-        Code.put(x, 0, 2, last);
-        Code.put(x, 0, 3, Code.times(9, Code.constant(1, 1)));
-        return x;
-    }
-
     private static void fuel(Check check) {
         for (int between = 0; between <= 6; between++) {
-            CallShaper x = nearTheEnd(between);
+            CallShaper x = Code.nearTheEnd(between);
             check.due("up to 400 operations", x.run(false, 1), 0);
             check.due("up to 400 operations: count(4)", x.count(4), 394 + between);
         }
-        CallShaper early = nearTheEnd(5, Code.add(0, 0, 0));
+        CallShaper early = Code.nearTheEnd(5, Code.add(0, 0, 0));
         check.due("the 400th traps", early.run(false, 1), KIND);
         check.due("the 400th traps: count(4)", early.count(4), 400);
         int[][] late = {Code.constant(1, 1), Code.add(1, 0, 0), Code.make(1, 1), Code.cast(0, 1), Code.call(1, 1, 0),
             Code.out(1), Code.skip(1, 9), Code.answer(1)};
         for (int[] last : late) {
-            CallShaper x = nearTheEnd(6, last);
+            CallShaper x = Code.nearTheEnd(6, last);
             check.due("FUEL comes before all else, kind " + last[0], x.run(false, 1), FUEL);
             check.due("FUEL comes before all else, kind " + last[0] + ": count(4)", x.count(4), 400);
             check.due("FUEL comes before all else, kind " + last[0] + ": count(0)", x.count(0), 0);

@@ -278,6 +278,13 @@ public final class ProgramEdgesTest {
         }
         check.refused("an eleventh again", IllegalStateException.class, () -> x.operation(0, 0, 0, 1, 11, 0));
         check.due("the new ones are run", Code.ran(x, false, 1), "0 []");
+        x.strip(0, 0);
+        Code.put(x, 0, 0, Code.make(1, 2), Code.call(2, 0, 1), Code.skip(2, 1), Code.answer(1));
+        x.strip(0, 0);
+        Code.put(x, 0, 0, Code.make(1, 3));
+        x.shape();
+        check.due("none of those taken away is shaped", x.reach(), 1 | 1 << 3 | 1 << 8);
+        check.due("none of those taken away lets an object out", x.site(0, 0, 0), 5);
     }
 
     private static void nothingToStrip(Check check) {

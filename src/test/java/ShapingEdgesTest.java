@@ -26,6 +26,7 @@ public final class ShapingEdgesTest {
         check.sentence("the class of each NEW in a reached body is made", ShapingEdgesTest::classesOfNews);
         check.sentence("for each CALL in a reached body and each made class the target of its selector, if there is one, is reached",
             ShapingEdgesTest::targetsOfCalls);
+        check.sentence("the least sets for which", ShapingEdgesTest::theLongestChain);
     }
 
     private static void calls(Check check) {
@@ -122,6 +123,25 @@ public final class ShapingEdgesTest {
         shaped(check, "over its parent's parent", x, 3, 1 | 1 << 3 | method(0, 0) | method(0, 2) | method(1, 3));
         x.strip(1, 3);
         shaped(check, "if there is one", x, 2, 1 | 1 << 3 | method(0, 0) | method(0, 2));
+    }
+
+    private static void theLongestChain(Check check) {
+        // Each of ten bodies makes one class or calls one selector, without which the next one is not reached.
+        CallShaper x = Code.program(Code.call(1, 0, 3));
+        Code.types(x, -1, -1, -1, -1, -1);
+        int reach = 0x3f | method(0, 0);
+        for (int type = 6; type > 1; type--) {
+            Code.put(x, type % 6, 3, Code.make(1, type - 1));
+            reach |= method(type % 6, 3);
+        }
+        for (int selector = 3; selector > 0; selector--) {
+            Code.put(x, 1, selector, Code.call(1, 0, selector - 1));
+            reach |= method(1, selector);
+        }
+        Code.put(x, 1, 0, Code.out(0));
+        shaped(check, "ten bodies", x, 10, reach | method(1, 0));
+        x.strip(5, 3);
+        shaped(check, "two bodies and a class, behind which the chain breaks", x, 2, 1 | 1 << 5 | method(0, 0) | method(0, 3));
     }
 
     private static void dead(Check check) {
@@ -304,6 +324,7 @@ public final class ShapingEdgesTest {
         check.due("a SET before the NEW", siteOfLastNew(Code.set(0, 2, 0)), NOT_LOCAL);
         check.due("a CALL before the NEW", siteOfLastNew(Code.call(0, 2, 0)), NOT_LOCAL);
         check.due("a CALL before register 5 is a holder", siteOfLastNew(Code.call(0, 1, 0), Code.move(5, 2)), NOT_LOCAL);
+        check.due("a MOVE before the NEW", siteOfLastNew(Code.move(3, 2), Code.answer(3)), NOT_LOCAL);
         check.due("MOVEs back to front", siteOfLastNew(Code.answer(0), Code.move(0, 1), Code.move(1, 3), Code.move(3, 4),
             Code.move(4, 5), Code.move(5, 2)), NOT_LOCAL);
         check.due("MOVEs back to front, one of which is not there", siteOfLastNew(Code.answer(0), Code.move(0, 1), Code.move(1, 3),

@@ -50,6 +50,7 @@ public final class TermsEdgesTest {
 
     private static void operationsThatLead(Check check) {
         check.sentence("7 CALL: x becomes what selector z of y answers", TermsEdgesTest::calls);
+        check.sentence("a frame is made for the target of the class of y", TermsEdgesTest::byTheClassOfY);
         check.sentence("in which register 0 is y and register 1 the caller's register 5", TermsEdgesTest::handedOver);
         check.sentence("9 SKIP: if x is the int 0", TermsEdgesTest::skipIfZero);
         check.sentence("the next y operations are left out", TermsEdgesTest::skipAsMany);
@@ -321,6 +322,17 @@ public final class TermsEdgesTest {
         Code.put(x, 0, 1, Code.constant(1, 9), Code.constant(2, 9), Code.constant(4, 9), Code.constant(5, 9), Code.make(0, 5),
             Code.answer(0));
         check.due("the caller's other registers stay", Code.ran(x, false, 2), "0 [1, 2, 1005, 4, 0, 1000]");
+    }
+
+    private static void byTheClassOfY(Check check) {
+        CallShaper x = Code.program(Code.make(2, 1), Code.call(3, 2, 1), Code.out(3), Code.call(3, 0, 1), Code.out(3));
+        Code.types(x, 0);
+        Code.put(x, 0, 1, Code.constant(2, 50), Code.answer(2));
+        Code.put(x, 1, 1, Code.call(2, 0, 2), Code.answer(2));
+        Code.put(x, 0, 2, Code.constant(2, 60), Code.answer(2));
+        check.due("class 1, then class 0", Code.ran(x, false, 2), "0 [60, 50]");
+        Code.put(x, 1, 2, Code.constant(2, 61), Code.answer(2));
+        check.due("of the object, not of the class whose method calls", Code.ran(x, false, 2), "0 [61, 50]");
     }
 
     private static void handedOver(Check check) {

@@ -231,7 +231,7 @@ public final class ProgramEdgesTest {
     }
 
     private static void numbersNotNamed(Check check) {
-        int[] strange = {MIN, -1, 6, 12, MAX};
+        int[] strange = {MIN, -1, 1, 6, 12, MAX};
         int[] withoutY = {8, 11};
         int[] withoutZ = {0, 1, 4, 8, 9, 10, 11};
         for (int number : strange) {
@@ -246,12 +246,12 @@ public final class ProgramEdgesTest {
     }
 
     private static void runsTheSame(Check check, int number) {
-        int[][] operations = {{0, 1, 7, number}, {4, 2, 1, number}, {1, 3, 2, number}, {8, 1, number, number}, {10, 2, 1, number},
-            {9, 4, 1, number}, {8, 0, number, number}, {11, 1, number, number}, {8, 1, number, number}};
+        int[][] operations = {{8, 4, number, number}, {0, 1, 7, number}, {4, 2, 1, number}, {1, 3, 2, number}, {8, 1, number, number},
+            {10, 2, 1, number}, {9, 4, 1, number}, {8, 0, number, number}, {11, 1, number, number}, {8, 1, number, number}};
         CallShaper x = Code.program(operations);
         x.shape();
-        check.due("not named: " + number + ", sites", Code.sites(x, 0, 0, 9), List.of(0, 5, 0, 0, 0, 0, 0, 0, 0));
-        check.due("not named: " + number + ", run", Code.ran(x, true, 1), "0 [7]");
+        check.due("not named: " + number + ", sites", Code.sites(x, 0, 0, 10), List.of(0, 0, 5, 0, 0, 0, 0, 0, 0, 0));
+        check.due("not named: " + number + ", run", Code.ran(x, true, 1), "0 [0, 7]");
     }
 
     private static void howManyThereWere(Check check) {

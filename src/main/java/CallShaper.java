@@ -501,6 +501,7 @@ public final class CallShaper {
             // One turn more than there is fuel for: the last one finds the fuel gone.
             for (int turn = 0; turn <= MOST_OPERATIONS && isGoing(); turn++) {
                 step();
+                leaveEndedFrames();
             }
             return trap;
         }
@@ -522,10 +523,14 @@ public final class CallShaper {
         }
 
         private boolean isGoing() {
-            for (int left = frames; left > 0 && trap == NO_TRAP && isBehindLast(left - 1); left--) {
+            return trap == NO_TRAP && frames > 0;
+        }
+
+        /** Takes no operation, and so no fuel: the caller, too, may then be behind its last one. */
+        private void leaveEndedFrames() {
+            for (int left = frames; left > 0 && isBehindLast(left - 1); left--) {
                 answer(0);
             }
-            return trap == NO_TRAP && frames > 0;
         }
 
         private boolean isBehindLast(int frame) {
